@@ -6,6 +6,7 @@ final class HistoryTest {
         promise22ErrorsAndOthers();
         promise23();
         promise24();
+        promise24AnotherRun();
         Checks.close("HistoryTest");
     }
 
@@ -161,5 +162,30 @@ final class HistoryTest {
         Checks.dueAll("everything again", everything(x), before);
         Checks.due("undo of a restore", x.undo(), 5);
         Checks.due("LOW as before", x.count(2), 8);
+    }
+
+    /** What a slot keeps of a run and of floods is not touched by later ones. */
+    private static void promise24AnotherRun() {
+        LeapStones x = new LeapStones();
+        x.save(1);
+        Checks.putText(x, "0:1-2*2,5;1:1-2*3,5;2:1-2,5;g;l;l;l");
+        x.carryOut();
+        x.flood(0, 5, 5);
+        x.save(0);
+        int[] before = everything(x);
+        Checks.due("two meetings", before[6 + 3], 2);
+        Checks.putText(x, "d;d;f*:0-2;0:5*9;g;f1:0-299;f2:0-299;f0:5-5");
+        x.carryOut();
+        Checks.putText(x, "f*:0-2;0:5*9,6;f0:5-5;1:6;2:6;f1:6-6;f*:0-299;f*:0-9;g");
+        x.carryOut();
+        Checks.due("over", x.ofRun(0), 1);
+        Checks.due("restored", x.restore(0), before[0]);
+        Checks.dueAll("with its meetings", everything(x), before);
+        Checks.due("its flood", x.dry(), 1);
+        Checks.due("gave back 5", x.ofStone(0, 2, 0), 5);
+        Checks.due("of one repeat", x.ofStone(0, 2, 1), 1);
+        Checks.due("nothing at all was saved in 1", x.restore(1), 0);
+        Checks.due("no run", x.ofRun(0), -6);
+        Checks.due("no flood", x.dry(), -5);
     }
 }

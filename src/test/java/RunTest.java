@@ -8,6 +8,7 @@ final class RunTest {
         promise7Ends();
         promise7Costs();
         promise8();
+        promise8EveryKey();
         Checks.close("RunTest");
     }
 
@@ -155,5 +156,28 @@ final class RunTest {
         Checks.due("the longest way", y.run(), 118);
         Checks.due("forty meetings", y.ofRun(3), 40);
         Checks.due("the last", y.meeting(39, 0), 39);
+    }
+
+    /** The stones behind the walkers are flooded and new ones laid ahead, until they have met on every key. */
+    private static void promise8EveryKey() {
+        LeapStones x = new LeapStones();
+        for (int from = 0; from < 300; from += 30) {
+            String range = from + "-" + (from + 29);
+            String flood = from == 0 ? "" : "f*:0-" + (from - 2) + ";";
+            Checks.putText(x, flood + "0:" + range + ";1:" + range + ";2:" + range + (from == 0 ? ";g" : ""));
+            x.carryOut();
+            int leaps = from == 0 ? 87 : 90;
+            for (int left = leaps; left > 0; left -= 40) {
+                Checks.putText(x, "l;".repeat(Math.min(40, left) - 1) + "l");
+                x.carryOut();
+            }
+        }
+        Checks.dueAll("all keys", Checks.run(x), 0, 300, 0, 300, 300, 897, 897, 0);
+        Checks.due("the last meeting", x.meeting(299, 0), 299);
+        Checks.due("its rows", x.meeting(299, 1), 1);
+        Checks.due("no more", x.meeting(300, 0), -1);
+        Checks.due("a leap off", x.run(), 1);
+        Checks.due("over", x.ofRun(0), 1);
+        Checks.due("no meeting more", x.ofRun(3), 300);
     }
 }

@@ -176,6 +176,15 @@ final class StonesTest {
         }
         Checks.due("no more", x.dry(), -5);
         Checks.dueAll("the latest four came back", Checks.stonesOf(x, 0), 3, 1, 4, 1, 5, 1, 6, 1);
+        LeapStones y = Checks.with("0:1;1:1-2;2:1-3");
+        y.flood(ALL, 0, 299);
+        for (int i = 0; i < 4; i++) {
+            Checks.due("nothing is left to take", y.flood(ALL, 0, 299), 0);
+        }
+        for (int i = 0; i < 4; i++) {
+            Checks.due("nothing of the one that was dropped", y.dry(), 0);
+        }
+        Checks.due("no more", y.dry(), -5);
     }
 
     private static void promise5() {

@@ -186,6 +186,8 @@ final class TextTest {
         Checks.due("too many", carry(x, "1:0-38;1:50,3*9,60*2,70;g"), 1);
         Checks.due("what was laid ahead stays", x.ofWalker(1, 0), 40);
         Checks.due("also other repeats", x.ofStone(1, 3, 1), 9);
+        Checks.due("an order ends at its first error", carry(x, "1:60,3*5"), 0);
+        Checks.due("what stands behind is not laid", x.ofStone(1, 3, 1), 9);
         Checks.due("no begin", x.ofRun(0), 1);
         Checks.due("a range across the limit", carry(x, "0:0-99"), 0);
         Checks.due("40", x.ofWalker(0, 0), 40);

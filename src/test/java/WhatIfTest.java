@@ -81,7 +81,8 @@ final class WhatIfTest {
         Checks.due("all cost nothing: the lowest ORDER", x.cheapest(1), 0);
         Checks.due("all cost nothing", x.cheapest(2), 0);
         String[] rivers = {"0:1-9,20,30;1:2,5,8,20,31;2:3-12,20", "0:0-39;1:39;2:39", "0:0-30;1:1,20;2:25,27",
-            "0:5;1:1-5;2:2-9", "0:7,9;1:1-7,30;2:1-7,40", "0:1;1:2,9;2:3-30"};
+            "0:5;1:1-5;2:2-9", "2:1,9;1:2,20;0:3-19", "2:1,9;0:2-7,20;1:3-8",
+            "0:7,9;1:1-7,30;2:1-7,40", "0:1;1:2,9;2:3-30"};
         for (String river : rivers) {
             x = Checks.with(river);
             int[] best = {0, 0, Integer.MAX_VALUE};
