@@ -29,30 +29,6 @@ final class HistoryTest {
         Checks.due("another", x.count(7), 2);
     }
 
-    private static int[] everything(LeapStones x) {
-        int[] all = new int[600];
-        int at = 0;
-        for (int what = 0; what < 6; what++) {
-            all[at++] = x.count(what);
-        }
-        for (int what = 0; what < 8; what++) {
-            all[at++] = x.ofRun(what);
-        }
-        for (int walker = 0; walker < 3; walker++) {
-            for (int number : Checks.walker(x, walker)) {
-                all[at++] = number;
-            }
-            for (int number : Checks.stonesOf(x, walker)) {
-                all[at++] = number;
-            }
-        }
-        for (int i = 0; i < x.ofRun(3); i++) {
-            all[at++] = x.meeting(i, 0);
-            all[at++] = x.meeting(i, 1);
-        }
-        return all;
-    }
-
     private static LeapStones busy() {
         LeapStones x = Checks.with("0:1-9*2,20;1:1-9*3,21;2:1-9*4,22", "f0:4-4;f1:6-6;g;l;l");
         x.set(LeapStones.HIGH, 21);
@@ -88,12 +64,12 @@ final class HistoryTest {
     private static void promise22Everything() {
         for (int kind = 0; kind <= 12; kind++) {
             LeapStones x = busy();
-            int[] before = everything(x);
+            int[] before = Checks.everything(x);
             int changes = x.count(7);
             change(x, kind);
             Checks.due("one change of kind " + kind, x.count(7), changes + 1);
             Checks.due("undo of kind " + kind, x.undo(), changes);
-            Checks.dueAll("as before kind " + kind, everything(x), before);
+            Checks.dueAll("as before kind " + kind, Checks.everything(x), before);
             Checks.due("floods come back as before", x.dry(), 1);
             Checks.due("it was the flood of 1", x.ofStone(1, 5, 0), 6);
         }
@@ -145,21 +121,21 @@ final class HistoryTest {
         Checks.due("slot -1", x.restore(-1), -2);
         Checks.due("slot 2", x.restore(2), -2);
         Checks.due("nothing saved", x.restore(1), -5);
-        int[] before = everything(x);
+        int[] before = Checks.everything(x);
         Checks.putText(x, "0:2");
         x.run();
         x.flood(LeapStones.NONE, 0, 299);
         x.set(LeapStones.ORDER, 4);
         int changes = x.count(7);
         Checks.due("restored", x.restore(0), before[0]);
-        Checks.dueAll("everything", everything(x), before);
+        Checks.dueAll("everything", Checks.everything(x), before);
         Checks.due("not the pad", x.count(6), 3);
         Checks.due("a change more", x.count(7), Math.min(6, changes + 1));
         x.dry();
         x.begin();
         x.set(LeapStones.LOW, 8);
         Checks.due("the slot keeps it", x.restore(0), before[0]);
-        Checks.dueAll("everything again", everything(x), before);
+        Checks.dueAll("everything again", Checks.everything(x), before);
         Checks.due("undo of a restore", x.undo(), 5);
         Checks.due("LOW as before", x.count(2), 8);
     }
@@ -172,7 +148,7 @@ final class HistoryTest {
         x.carryOut();
         x.flood(0, 5, 5);
         x.save(0);
-        int[] before = everything(x);
+        int[] before = Checks.everything(x);
         Checks.due("two meetings", before[6 + 3], 2);
         Checks.putText(x, "d;d;f*:0-2;0:5*9;g;f1:0-299;f2:0-299;f0:5-5");
         x.carryOut();
@@ -180,7 +156,7 @@ final class HistoryTest {
         x.carryOut();
         Checks.due("over", x.ofRun(0), 1);
         Checks.due("restored", x.restore(0), before[0]);
-        Checks.dueAll("with its meetings", everything(x), before);
+        Checks.dueAll("with its meetings", Checks.everything(x), before);
         Checks.due("its flood", x.dry(), 1);
         Checks.due("gave back 5", x.ofStone(0, 2, 0), 5);
         Checks.due("of one repeat", x.ofStone(0, 2, 1), 1);

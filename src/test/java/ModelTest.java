@@ -5,10 +5,15 @@ import java.util.TreeMap;
 import java.util.regex.Matcher;
 import java.util.regex.Pattern;
 
-/** Long runs of calls on the class and on a second, plain model of the document; every answer is to be the same. */
+/**
+ * Long runs of calls on the class and on a second, plain model of the document; every answer is to be the same. No run
+ * makes more calls than the document promises of one object.
+ */
 final class ModelTest {
-    private static final int RUNS = 250;
-    private static final int CALLS = 160;
+    private static final int RUNS = 4000;
+    private static final int CALLS = 512;
+    private static final int DEAREST_STEP = 90;
+    private static final int DEAREST_LOOK = 8;
 
     /** Numbers from a fixed seed, so that every run of the test is the same. */
     static final class Dice {
@@ -554,6 +559,7 @@ final class ModelTest {
     private final LeapStones x = new LeapStones();
     private final Model m = new Model();
     private final String name;
+    private int made = 0;
 
     private ModelTest(int run) {
         name = "run " + run + ": ";
@@ -562,6 +568,7 @@ final class ModelTest {
     }
 
     private void due(String call, int got, int want) {
+        made++;
         Checks.due(name + call, got, want);
     }
 
@@ -673,46 +680,106 @@ final class ModelTest {
         due("carryOut() of " + m.pad, x.carryOut(), m.carryOut());
     }
 
+    private boolean mayLook() {
+        return made + DEAREST_LOOK <= CALLS;
+    }
+
+    private int callsToCompareAll() {
+        return 90 + 2 * (m.w.meetings.size() + 2) + 2 * (m.count(0) + 6);
+    }
+
     private void compareAll() {
-        for (int what = -1; what < 9; what++) {
-            due("ofRun(" + what + ")", x.ofRun(what), m.ofRun(what));
-            due("count(" + what + ")", x.count(what), m.count(what));
-            due("walking(" + what + ")", x.walking(what), m.walking(what));
-            for (int walker = -1; walker < 4; walker++) {
-                due("ofWalker(" + walker + ", " + what + ")", x.ofWalker(walker, what), m.ofWalker(walker, what));
-            }
+        for (int what = -1; what < 9 && mayLook(); what++) {
+            compare(what);
         }
-        for (int i = -1; i <= m.w.meetings.size(); i++) {
-            due("meeting(" + i + ", 0)", x.meeting(i, 0), m.meeting(i, 0));
-            due("meeting(" + i + ", 1)", x.meeting(i, 1), m.meeting(i, 1));
+        for (int i = -1; i <= m.w.meetings.size() && mayLook(); i++) {
+            compareMeeting(i);
         }
         for (int walker = 0; walker < 3; walker++) {
-            for (int i = -1; i <= m.w.stones.get(walker).size(); i++) {
-                due("ofStone(" + walker + ", " + i + ", 0)", x.ofStone(walker, i, 0), m.ofStone(walker, i, 0));
-                due("ofStone(" + walker + ", " + i + ", 1)", x.ofStone(walker, i, 1), m.ofStone(walker, i, 1));
+            for (int i = -1; i <= m.w.stones.get(walker).size() && mayLook(); i++) {
+                compareStone(walker, i);
             }
         }
-        int from = key();
-        int to = key();
-        due("lostBy(" + from + ", " + to + ")", x.lostBy(from, to), m.lostBy(from, to));
-        int search = wild(dice.below(3));
-        int order = wild(dice.below(6));
-        int what = wild(dice.below(2));
-        due("runWith(" + search + ", " + order + ", " + what + ")", x.runWith(search, order, what),
-            m.runWith(search, order, what));
-        int figure = wild(dice.below(3));
-        if (dice.below(4) == 0) {
-            due("cheapest(" + figure + ")", x.cheapest(figure), m.cheapest(figure));
+    }
+
+    private void compare(int what) {
+        due("ofRun(" + what + ")", x.ofRun(what), m.ofRun(what));
+        due("count(" + what + ")", x.count(what), m.count(what));
+        due("walking(" + what + ")", x.walking(what), m.walking(what));
+        for (int walker = -1; walker < 4; walker++) {
+            due("ofWalker(" + walker + ", " + what + ")", x.ofWalker(walker, what), m.ofWalker(walker, what));
         }
+    }
+
+    private void compareMeeting(int meeting) {
+        due("meeting(" + meeting + ", 0)", x.meeting(meeting, 0), m.meeting(meeting, 0));
+        due("meeting(" + meeting + ", 1)", x.meeting(meeting, 1), m.meeting(meeting, 1));
+    }
+
+    private void compareStone(int walker, int stone) {
+        due("ofStone(" + walker + ", " + stone + ", 0)", x.ofStone(walker, stone, 0), m.ofStone(walker, stone, 0));
+        due("ofStone(" + walker + ", " + stone + ", 1)", x.ofStone(walker, stone, 1), m.ofStone(walker, stone, 1));
+    }
+
+    private void compareSome() {
+        int what = wild(dice.below(8));
+        int walker = wild(dice.below(3));
+        switch (dice.below(8)) {
+            case 0, 1 -> due("ofRun(" + what + ")", x.ofRun(what), m.ofRun(what));
+            case 2, 3 -> due("ofWalker(" + walker + ", " + what + ")", x.ofWalker(walker, what), m.ofWalker(walker, what));
+            case 4 -> due("count(" + what + ")", x.count(what), m.count(what));
+            case 5 -> {
+                int stone = dice.below(12);
+                int part = wild(dice.below(2));
+                due("ofStone(" + walker + ", " + stone + ", " + part + ")", x.ofStone(walker, stone, part),
+                    m.ofStone(walker, stone, part));
+            }
+            case 6 -> {
+                int part = wild(dice.below(2));
+                due("meeting(" + what + ", " + part + ")", x.meeting(what, part), m.meeting(what, part));
+            }
+            default -> compareWhatIf();
+        }
+    }
+
+    private void compareWhatIf() {
+        switch (dice.below(4)) {
+            case 0 -> {
+                int from = key();
+                int to = key();
+                due("lostBy(" + from + ", " + to + ")", x.lostBy(from, to), m.lostBy(from, to));
+            }
+            case 1 -> {
+                int search = wild(dice.below(3));
+                int order = wild(dice.below(6));
+                int what = wild(dice.below(2));
+                due("runWith(" + search + ", " + order + ", " + what + ")", x.runWith(search, order, what),
+                    m.runWith(search, order, what));
+            }
+            case 2 -> {
+                int what = wild(dice.below(3));
+                due("cheapest(" + what + ")", x.cheapest(what), m.cheapest(what));
+            }
+            default -> {
+                int what = wild(dice.below(5));
+                due("walking(" + what + ")", x.walking(what), m.walking(what));
+            }
+        }
+    }
+
+    private void run() {
+        while (made + DEAREST_STEP + callsToCompareAll() < CALLS) {
+            call();
+            compareSome();
+            compareSome();
+        }
+        compareAll();
+        Checks.isTrue(name + "at most " + CALLS + " calls, not " + made, made <= CALLS);
     }
 
     public static void main(String[] args) {
         for (int run = 0; run < RUNS && Checks.wrongSoFar() < 20; run++) {
-            ModelTest test = new ModelTest(run);
-            for (int call = 0; call < CALLS && Checks.wrongSoFar() < 20; call++) {
-                test.call();
-                test.compareAll();
-            }
+            new ModelTest(run).run();
         }
         Checks.close("ModelTest");
     }

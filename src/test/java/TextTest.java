@@ -139,32 +139,27 @@ final class TextTest {
         Checks.due("a full pad that ends too early", x.fault(), 80);
     }
 
-    private static int carry(LeapStones x, String text) {
-        Checks.putText(x, text);
-        return x.carryOut();
-    }
-
     private static void promise21() {
         LeapStones x = new LeapStones();
         Checks.due("an empty pad", x.carryOut(), -3);
         Checks.due("no change", x.count(7), 0);
-        Checks.due("bad", carry(x, "0:1;x"), -3);
+        Checks.due("bad", Checks.carry(x, "0:1;x"), -3);
         Checks.due("nothing was laid", x.count(0), 0);
         Checks.due("the pad stays", x.wipe(), 5);
-        Checks.due("stones", carry(x, "0:3-5*2,1,4*7;1:8*9"), 2);
+        Checks.due("stones", Checks.carry(x, "0:3-5*2,1,4*7;1:8*9"), 2);
         Checks.due("the pad is empty", x.count(6), 0);
         Checks.dueAll("0", Checks.stonesOf(x, 0), 1, 1, 3, 2, 4, 7, 5, 2);
         Checks.dueAll("1", Checks.stonesOf(x, 1), 8, 9);
-        Checks.due("without repeats it is 1", carry(x, "0:3"), 1);
+        Checks.due("without repeats it is 1", Checks.carry(x, "0:3"), 1);
         Checks.due("1", x.ofStone(0, 1, 1), 1);
-        Checks.due("a second key below the first", carry(x, "2:9-8;2:7"), 2);
+        Checks.due("a second key below the first", Checks.carry(x, "2:9-8;2:7"), 2);
         Checks.dueAll("lays nothing", Checks.stonesOf(x, 2), 7, 1);
-        Checks.due("a run, and 0 leaps off", carry(x, "g;l;l"), 2);
+        Checks.due("a run, and 0 leaps off", Checks.carry(x, "g;l;l"), 2);
         Checks.dueAll("of one leap", Checks.run(x), 1, 8, 1, 0, 0, 1, 3, 0);
-        Checks.due("floods", carry(x, "f0:1-3;f*:7-8"), 2);
+        Checks.due("floods", Checks.carry(x, "f0:1-3;f*:7-8"), 2);
         Checks.due("stones left", x.count(0), 2);
         Checks.due("floods kept", x.count(1), 2);
-        Checks.due("dry", carry(x, "d;d"), 2);
+        Checks.due("dry", Checks.carry(x, "d;d"), 2);
         Checks.due("stones again", x.count(0), 6);
         Checks.due("one change each", x.count(7), 6);
         x.undo();
@@ -174,27 +169,27 @@ final class TextTest {
 
     private static void promise21StopsAtErrors() {
         LeapStones x = new LeapStones();
-        Checks.due("a leap without a run", carry(x, "l;g"), 0);
+        Checks.due("a leap without a run", Checks.carry(x, "l;g"), 0);
         Checks.due("nothing behind it", x.ofRun(0), -6);
         Checks.due("a change all the same", x.count(7), 1);
         Checks.due("the pad is emptied", x.count(6), 0);
-        Checks.due("dry without a flood", carry(x, "g;d;0:1"), 1);
+        Checks.due("dry without a flood", Checks.carry(x, "g;d;0:1"), 1);
         Checks.due("no stone", x.count(0), 0);
-        Checks.due("a flood backwards", carry(x, "0:1-3;f0:3-2;0:9"), 1);
+        Checks.due("a flood backwards", Checks.carry(x, "0:1-3;f0:3-2;0:9"), 1);
         Checks.due("no flood", x.count(1), 0);
         Checks.due("three", x.count(0), 3);
-        Checks.due("too many", carry(x, "1:0-38;1:50,3*9,60*2,70;g"), 1);
+        Checks.due("too many", Checks.carry(x, "1:0-38;1:50,3*9,60*2,70;g"), 1);
         Checks.due("what was laid ahead stays", x.ofWalker(1, 0), 40);
         Checks.due("also other repeats", x.ofStone(1, 3, 1), 9);
-        Checks.due("an order ends at its first error", carry(x, "1:60,3*5"), 0);
+        Checks.due("an order ends at its first error", Checks.carry(x, "1:60,3*5"), 0);
         Checks.due("what stands behind is not laid", x.ofStone(1, 3, 1), 9);
         Checks.due("no begin", x.ofRun(0), 1);
-        Checks.due("a range across the limit", carry(x, "0:0-99"), 0);
+        Checks.due("a range across the limit", Checks.carry(x, "0:0-99"), 0);
         Checks.due("40", x.ofWalker(0, 0), 40);
         Checks.due("the last one", x.ofStone(0, 39, 0), 39);
-        Checks.due("dry with too many", carry(x, "f0:0-0;0:200;d;2:5"), 2);
+        Checks.due("dry with too many", Checks.carry(x, "f0:0-0;0:200;d;2:5"), 2);
         Checks.due("no stone of 2", x.ofWalker(2, 0), 0);
-        Checks.due("others than new ones of 40", carry(x, "0:1-39*3"), 1);
-        Checks.due("a leap of a run that is over", carry(x, "g;l;g"), 1);
+        Checks.due("others than new ones of 40", Checks.carry(x, "0:1-39*3"), 1);
+        Checks.due("a leap of a run that is over", Checks.carry(x, "g;l;g"), 1);
     }
 }
