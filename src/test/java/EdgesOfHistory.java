@@ -3,7 +3,7 @@ import java.util.ArrayDeque;
 /** The sentences of promises 22 to 24. */
 final class EdgesOfHistory {
     private static final int ALL = LeapStones.NONE;
-    private static final int CHANGES = 13;
+    private static final int CHANGES = 15;
 
     private EdgesOfHistory() {
     }
@@ -24,9 +24,9 @@ final class EdgesOfHistory {
         restoreReturns();
     }
 
-    /** A run that goes on, with a meeting, leaps, a slip and two floods that are kept; slot 0 is saved. */
+    /** A run that goes on, with a meeting, leaps, a slip and four floods that are kept; slot 0 is saved. */
     private static LeapStones busy() {
-        LeapStones x = Checks.river("0:1-9*2,20;1:1-9*3,21;2:1-9*4,22;f0:4-4;g;l;l", "f1:2-2;f2:6-6");
+        LeapStones x = Checks.river("0:1-9*2,20;1:1-9*3,21;2:1-9*4,22;f0:4-4;g;l;l", "f1:2-2;f2:6-6;f*:9-9");
         x.set(LeapStones.HIGH, 21);
         x.save(0);
         return x;
@@ -47,7 +47,9 @@ final class EdgesOfHistory {
             case 9: return x.begin();
             case 10: return x.leap();
             case 11: return x.run();
-            default: return Checks.carry(x, "f*:5-7;l;2:100-103;d;d;g;l;l");
+            case 12: return Checks.carry(x, "f*:5-7;l;2:100-103;d;d;g;l;l");
+            case 13: return Checks.carry(x, "d;d;d;d;f*:1-1;f0:2-2;f1:3-3;f2:5-5;f*:7-7");
+            default: return Checks.carry(x, "0:5*9;f*:0-3;g;l;l;l;l");
         }
     }
 
@@ -278,6 +280,7 @@ final class EdgesOfHistory {
             for (int other = 0; other < CHANGES; other++) {
                 change(x, other);
             }
+            change(x, 14);
             x.restore(1);
             sameToTheEnd("saved behind change " + kind, x, twin);
         }

@@ -54,8 +54,13 @@ final class EdgesOfWhatIf {
             Checks.due("all three again", x.walking(0), 3);
         }
         x.begin();
+        Checks.due("not by the run, which met once", x.walking(0), 3);
         x.run();
-        Checks.due("not by the run", x.walking(0), 3);
+        Checks.due("nor by its end", x.walking(0), 3);
+        x.stone(0, 40, 1);
+        x.stone(1, 40, 1);
+        x.stone(2, 40, 1);
+        Checks.due("but by the stones", x.walking(0), 4);
         LeapStones y = Checks.river("0:0,299;1:0,299;2:0,299");
         Checks.due("the first and the last key", y.walking(0), 2);
         Checks.due("no change", y.count(7), 1);
@@ -65,6 +70,9 @@ final class EdgesOfWhatIf {
         Checks.says("Promise 14", "- `what`: 0 how many such keys, 1 their rows together, 2 the first one, "
             + "3 the last one (2, 3: NONE),");
         Checks.dueAll("no stones", walking(new LeapStones()), 0, 0, -6, -6, -6);
+        Checks.dueAll("one key of one each", walking(Checks.river("0:5*2;1:5*3;2:5*4")), 1, 24, 5, 5, -6);
+        Checks.dueAll("the first one of all", walking(Checks.river("0:5,6;1:5,7;2:5,8")), 1, 1, 5, 5, -6);
+        Checks.dueAll("the last one of all", walking(Checks.river("0:5,9;1:6,9;2:7,9")), 1, 1, 9, 9, -6);
         LeapStones x = Checks.river("0:0*2,5,9*3,299;1:0*2,6,9*3,299;2:0*2,5,9*2,299*9");
         Checks.dueAll("three keys", walking(x), 3, 8 + 18 + 9, 0, 299, 290);
         Checks.dueAll("two keys", walking(between(x, 1, 299)), 2, 27, 9, 299, 290);

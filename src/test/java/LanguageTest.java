@@ -7,6 +7,7 @@ import com.sun.source.tree.LambdaExpressionTree;
 import com.sun.source.tree.MemberReferenceTree;
 import com.sun.source.tree.MethodInvocationTree;
 import com.sun.source.tree.MethodTree;
+import com.sun.source.tree.NewArrayTree;
 import com.sun.source.tree.NewClassTree;
 import com.sun.source.tree.SynchronizedTree;
 import com.sun.source.tree.ThrowTree;
@@ -19,12 +20,15 @@ import com.sun.source.util.SourcePositions;
 import com.sun.source.util.TreePathScanner;
 import com.sun.source.util.Trees;
 import java.io.File;
+import java.lang.reflect.Array;
 import java.lang.reflect.Field;
 import java.lang.reflect.Member;
 import java.lang.reflect.Method;
 import java.lang.reflect.Modifier;
+import java.util.Collections;
 import java.util.HashMap;
 import java.util.HashSet;
+import java.util.IdentityHashMap;
 import java.util.List;
 import java.util.Map;
 import java.util.Set;
@@ -66,6 +70,7 @@ final class LanguageTest extends TreePathScanner<Void, Void> {
 
     public static void main(String[] args) throws Exception {
         face();
+        room();
         JavaCompiler compiler = ToolProvider.getSystemJavaCompiler();
         try (StandardJavaFileManager files = compiler.getStandardFileManager(null, null, null)) {
             JavacTask task = (JavacTask) compiler.getTask(null, files, null, List.of("-proc:none"), null,
@@ -107,6 +112,37 @@ final class LanguageTest extends TreePathScanner<Void, Void> {
             }
         }
         Checks.isTrue("the constants are " + constants, String.join(" ", constants).equals(CONSTANTS));
+    }
+
+    /** What one object of the class takes of the room. */
+    private static void room() throws IllegalAccessException {
+        Set<Object> found = Collections.newSetFromMap(new IdentityHashMap<>());
+        int fieldsAndElements = sizeOf(new LeapStones(), found);
+        Checks.isTrue("at most 700 objects: " + found.size(), found.size() <= 700);
+        Checks.isTrue("at most 20,000 fields and elements: " + fieldsAndElements, fieldsAndElements <= 20_000);
+    }
+
+    private static int sizeOf(Object object, Set<Object> found) throws IllegalAccessException {
+        if (object == null || !found.add(object)) {
+            return 0;
+        }
+        int size = 0;
+        if (object.getClass().isArray()) {
+            size = Array.getLength(object);
+            if (object instanceof Object[] row) {
+                for (Object element : row) {
+                    size += sizeOf(element, found);
+                }
+            }
+            return size;
+        }
+        for (Field field : object.getClass().getDeclaredFields()) {
+            if (!Modifier.isStatic(field.getModifiers())) {
+                field.setAccessible(true);
+                size += 1 + (field.getType().isPrimitive() ? 0 : sizeOf(field.get(object), found));
+            }
+        }
+        return size;
     }
 
     private static void isPublicOrPrivate(Member member) {
@@ -165,7 +201,19 @@ final class LanguageTest extends TreePathScanner<Void, Void> {
         if (tree.getClassBody() != null) {
             never("anonymous class", tree);
         }
+        madeOnlyWithItsObject(tree);
         return super.visitNewClass(tree, none);
+    }
+
+    @Override
+    public Void visitNewArray(NewArrayTree tree, Void none) {
+        madeOnlyWithItsObject(tree);
+        return super.visitNewArray(tree, none);
+    }
+
+    /** All calls of a run live in one room: objects and arrays are made in constructors and for fields alone. */
+    private void madeOnlyWithItsObject(Tree tree) {
+        Checks.isTrue("no call makes an object: " + tree, method.isEmpty() || method.endsWith(".<init>"));
     }
 
     @Override
