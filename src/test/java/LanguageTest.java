@@ -33,6 +33,7 @@ import java.util.List;
 import java.util.Map;
 import java.util.Set;
 import java.util.TreeSet;
+import java.util.regex.Pattern;
 import javax.lang.model.element.Element;
 import javax.lang.model.element.ElementKind;
 import javax.tools.JavaCompiler;
@@ -46,8 +47,13 @@ final class LanguageTest extends TreePathScanner<Void, Void> {
         + "run() runWith(int,int,int) save(int) set(int,int) stone(int,int,int) undo() walking(int) wipe()";
     private static final String CONSTANTS = "BAD_TEXT=-3 BAD_VALUE=-2 HIGH=1 LOW=0 NONE=-6 NOT_POSSIBLE=-5 NO_SUCH=-1 "
         + "ORDER=3 SEARCH=2 TOO_MANY=-4";
-    private static final Set<String> LIBRARY = Set.of("java.lang.Math.min", "java.lang.Math.max",
-        "java.lang.System.arraycopy", "java.lang.Object.<init>");
+    // rule 4 of LANGUAGE.md
+    private static final Pattern LIBRARY = Pattern.compile("java\\.lang\\.Object\\.<init>|java\\.lang\\.System\\.arraycopy"
+        + "|java\\.lang\\.(Math|Integer|Long)\\.(?!.*Exact$)[a-z]\\w*"
+        + "|java\\.lang\\.String\\.(length|charAt|isEmpty|equals|indexOf|substring|toCharArray|<init>)"
+        + "|java\\.lang\\.StringBuilder\\.(<init>|append|charAt|setCharAt|setLength|deleteCharAt|reverse|length|toString)"
+        + "|java\\.util\\.(ArrayList|List)\\.(<init>|add|get|set|remove|size|isEmpty|clear|of)"
+        + "|java\\.util\\.Arrays\\.(copyOf|copyOfRange|fill)");
 
     private final Trees trees;
     private final SourcePositions positions;
@@ -156,7 +162,8 @@ final class LanguageTest extends TreePathScanner<Void, Void> {
 
     @Override
     public Void visitImport(ImportTree tree, Void none) {
-        never("import", tree);
+        Checks.isTrue("in the library's part: " + tree,
+            tree.getQualifiedIdentifier().toString().matches("java\\.util\\.(ArrayList|List|Arrays|Iterator)"));
         return super.visitImport(tree, none);
     }
 
@@ -275,7 +282,7 @@ final class LanguageTest extends TreePathScanner<Void, Void> {
     public Void visitMethodInvocation(MethodInvocationTree tree, Void none) {
         Element called = trees.getElement(getCurrentPath());
         String name = nameOf(called);
-        Checks.isTrue("in the library's part: " + name, name.startsWith("LeapStones") || LIBRARY.contains(name));
+        Checks.isTrue("in the library's part: " + name, name.startsWith("LeapStones") || LIBRARY.matcher(name).matches());
         calls.get(method).add(name);
         return super.visitMethodInvocation(tree, none);
     }
