@@ -1,4 +1,4 @@
-/** The sentences of 'What it is', 'Terms', 'Settings' and 'Stones'. */
+/** The sentences of 'Terms', 'Settings' and 'Stones', and how many calls an object is used for. */
 final class EdgesOfTerms {
     private static final int ALL = LeapStones.NONE;
     private static final int[][] ORDERS = {{0, 1, 2}, {0, 2, 1}, {1, 0, 2}, {1, 2, 0}, {2, 0, 1}, {2, 1, 0}};
@@ -24,7 +24,8 @@ final class EdgesOfTerms {
     }
 
     private static void calls512() {
-        Checks.says("What it is", "An object is used for at most 512 calls after it has been made;");
+        Checks.says("What it is", "An object is used for at most 512 calls after it has been made; "
+            + "what later calls answer is free.");
         LeapStones x = new LeapStones();
         for (int i = 0; i < 510; i++) {
             int before = i < 120 ? 0 : 1 + (i / 120 - 1) % 9;

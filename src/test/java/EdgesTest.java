@@ -11,6 +11,7 @@ final class EdgesTest {
     private static final int PROMISES = 24;
 
     public static void main(String[] args) throws IOException {
+        EdgesOfStory.run();
         EdgesOfTerms.run();
         EdgesOfRuns.run();
         EdgesOfLeaps.run();
@@ -36,6 +37,7 @@ final class EdgesTest {
             Checks.isTrue("stands once under '" + quotation[0] + "': " + quotation[1],
                 doc.quote(quotation[0], quotation[1]));
         }
+        allQuoted(doc, "What it is");
         allQuoted(doc, "Terms");
         for (String heading : TERMS) {
             allQuoted(doc, heading);

@@ -25,6 +25,8 @@ import java.lang.reflect.Field;
 import java.lang.reflect.Member;
 import java.lang.reflect.Method;
 import java.lang.reflect.Modifier;
+import java.nio.file.Files;
+import java.nio.file.Path;
 import java.util.Collections;
 import java.util.HashMap;
 import java.util.HashSet;
@@ -33,6 +35,7 @@ import java.util.List;
 import java.util.Map;
 import java.util.Set;
 import java.util.TreeSet;
+import java.util.regex.Matcher;
 import java.util.regex.Pattern;
 import javax.lang.model.element.Element;
 import javax.lang.model.element.ElementKind;
@@ -40,7 +43,10 @@ import javax.tools.JavaCompiler;
 import javax.tools.StandardJavaFileManager;
 import javax.tools.ToolProvider;
 
-/** The face of the class, and the rules of LANGUAGE.md that can be read off the source. Its argument is the source. */
+/**
+ * The face of the class, and the rules of LANGUAGE.md that can be read off the source. Its arguments are the source and
+ * the document.
+ */
 final class LanguageTest extends TreePathScanner<Void, Void> {
     private static final String FACE = "begin() carryOut() cheapest(int) count(int) dry() fault() flood(int,int,int) leap() "
         + "lostBy(int,int) meeting(int,int) ofRun(int) ofStone(int,int,int) ofWalker(int,int) put(long) restore(int) "
@@ -76,6 +82,9 @@ final class LanguageTest extends TreePathScanner<Void, Void> {
 
     public static void main(String[] args) throws Exception {
         face();
+        if (args.length > 1 && Files.exists(Path.of(args[1]))) {
+            faceOfTheDocument(Files.readString(Path.of(args[1])));
+        }
         room();
         JavaCompiler compiler = ToolProvider.getSystemJavaCompiler();
         try (StandardJavaFileManager files = compiler.getStandardFileManager(null, null, null)) {
@@ -118,6 +127,29 @@ final class LanguageTest extends TreePathScanner<Void, Void> {
             }
         }
         Checks.isTrue("the constants are " + constants, String.join(" ", constants).equals(CONSTANTS));
+    }
+
+    /** The document shows no other face than the one to which face() compares. */
+    private static void faceOfTheDocument(String document) {
+        Matcher block = Pattern.compile("## The public face\\s+```java\\s+(.*?)```", Pattern.DOTALL).matcher(document);
+        Checks.isTrue("the document has a face", block.find());
+        String face = block.group(1);
+        Set<String> methods = new TreeSet<>();
+        Matcher method = Pattern.compile("public int (\\w+)\\(([^)]*)\\);").matcher(face);
+        while (method.find()) {
+            String types = method.group(2).replaceAll(" \\w+(,|$)", "$1").replace(", ", ",");
+            methods.add(method.group(1) + "(" + types + ")");
+        }
+        Checks.isTrue("the document's methods are " + methods, String.join(" ", methods).equals(FACE));
+        Set<String> constants = new TreeSet<>();
+        Matcher constant = Pattern.compile("([A-Z_]+) = (-?\\d+)").matcher(face);
+        while (constant.find()) {
+            constants.add(constant.group(1) + "=" + constant.group(2));
+        }
+        Checks.isTrue("the document's constants are " + constants, String.join(" ", constants).equals(CONSTANTS));
+        int others = 4;
+        Checks.due("and the class, its constructor and two rows of constants", face.split("public ").length - 1,
+            methods.size() + others);
     }
 
     /** What one object of the class takes of the room. */
